@@ -137,12 +137,17 @@ public final class AheadTest {
     Check.due("each 7 days", house.when(0, 0, 0, 30, 7), 21);
     Check.due("each 60 days, on the last", house.when(0, 0, 0, 34, 60), 120);
     Check.due("each 60 days, too late", house.when(0, 0, 0, 33, 60), -1);
+    Check.due("on the day 121 it is too late", house.when(0, 0, 0, 9, 11), -1);
+    Check.due("each 10 days", house.when(0, 0, 0, 9, 10), 110);
     Check.due("points expire in between", house.when(0, 0, 1, 30, 7), -1);
     Check.due("points expire as others are bought", house.when(0, 0, 1, 50, 10), -1);
     Check.due("points expire later than others are bought", house.when(0, 0, 1, 50, 9), 9);
     Check.due("the tier, which the scores of 90 days bring", house.when(0, 1, 0, 667, 40), 80);
     Check.due("the tier is reached too seldom", house.when(0, 1, 0, 300, 30), -1);
     Check.due("no stock", house.when(0, 2, 0, 100, 1), -1);
+    house.buy(1, 1, 100);
+    house.pass(9);
+    Check.due("today, with what expires tomorrow", house.when(1, 0, 0, 1, 60), 0);
     owing();
     Check.noIndex("no such member", () -> house.when(2, 0, 0, 0, 0));
     Check.noIndex("no such member", () -> house.when(-1, 0, 0, 1, 1));
@@ -194,12 +199,22 @@ public final class AheadTest {
     house.buy(0, 1, 300);
     house.give(0, 2, 300);
     house.takeBack(1);
+    house.buy(2, 1, 10);
+    house.pass(25);
     house.state(0);
     String twin = house.digest() + Check.member(house, 0) + Check.member(house, 1);
     Check.due("when", house.when(0, 0, 1, 500, 3), -1);
     Check.due("nothing is changed", house.digest() + Check.member(house, 0) + Check.member(house, 1), twin);
-    Check.due("buy behind it", house.buy(1, 0, 500), 0);
-    Check.due("no lot", Check.transaction(house, 3), "[0, 1, 0, 0, 0, 0, -1]");
-    Check.due("expired behind it", house.pass(20), 1050 + 270);
+    Check.teach(house, "rule a earn 10 each 719;");
+    Check.due("when", house.when(1, 0, 0, 1, 1), -1);
+    Check.due("what would have been given does not count", house.would(1, 0, 1), 10 * 105 / 100);
+    Check.teach(house, "rule a earn amount each 700; rule b when nth = 4 earn 9;");
+    Check.due("buy behind it", house.buy(0, 1, 500), 750);
+    Check.due("a lot behind it", Check.lot(house, house.count(7) - 1), "[0, 450, 45, 450, 0]");
+    Check.teach(house, "rule a when nth > 9 earn 1; rule b earn 50 each 60;");
+    Check.due("what was given behind it", house.buy(1, 0, 1), 52);
+    Check.teach(house, "rule a earn 100 each 705; rule b earn 50 each 60;");
+    Check.due("what was given behind it counts", house.would(1, 0, 1), 5 * 105 / 100 + 10 * 105 / 100);
+    Check.due("expired behind it", house.pass(20), 450);
   }
 }

@@ -130,6 +130,9 @@ public final class PeopleTest {
     house.takeBack(0);
     Check.due("owed", Check.member(house, 0), "[0, 1, 0, 300, 260, 0, 2, 260, 0]");
     Check.due("the other", Check.member(house, 1), "[-1, 0, 270, 0, 0, 0, 0, 0, 1]");
+    PointHouse one = Check.houseWith("rule a earn 1;", 1);
+    one.buy(0, 0, 1);
+    Check.due("a lot with 1 point left", one.member(0, 8), 1);
     Check.noIndex("member(2, 0)", () -> house.member(2, 0));
     Check.noIndex("member(-1, 0)", () -> house.member(-1, 0));
     Check.noIndex("member(0, 9)", () -> house.member(0, 9));

@@ -14,6 +14,7 @@ public final class PointsTest {
     takeBackWhen();
     transactionAndLot();
     hundred();
+    full();
     pass();
     count();
     Check.end();
@@ -77,6 +78,10 @@ public final class PointsTest {
     Check.due("pays all that is left", house.buy(0, 0, 70), 70);
     Check.due("owed", house.member(0, 3), 0);
     Check.due("no lot", house.transaction(3, 6), -1);
+    house.give(1, 0, 45);
+    Check.due("what paid is owed again, less what there is", house.takeBack(2), 0);
+    Check.due("from other lots", house.member(0, 2), 10);
+    Check.due("what paid is owed again", house.takeBack(3), 60);
     PointHouse other = owing(100);
     Check.due("pays and has a rest", other.buy(0, 0, 130), 130);
     Check.due("the rest", Check.lot(other, 2), "[0, 30, 365, 30, 0]");
@@ -226,6 +231,14 @@ public final class PointsTest {
     PointHouse owing = owing(10);
     owing.give(1, 0, 9);
     Check.noState("who owes does not give", () -> owing.give(0, 1, 1));
+    PointHouse one = owing(1);
+    one.buy(1, 0, 10);
+    one.give(1, 0, 10);
+    one.addReward(1, 1, 0);
+    Check.due("balance", one.member(0, 2), 9);
+    Check.noState("who owes 1 does not give", () -> one.give(0, 1, 1));
+    Check.noState("who owes 1 does not take", () -> one.take(0, 0));
+    Check.due("who owes 1 affords nothing", one.affords(0), -1);
   }
 
   private static void takeBackPurchase() {
@@ -364,6 +377,52 @@ public final class PointsTest {
     Check.due("affords also then", house.affords(0), 0);
     Check.due("would also then", house.would(0, 0, 1), 20 * 110 / 100);
     Check.due("transactions", house.count(6), 100);
+  }
+
+  /** All that has a limit is at it, and each call still answers. */
+  private static void full() {
+    PointHouse house = Check.houseWith("rule a earn amount;", 16);
+    for (int i = 0; i < 10; i++) {
+      house.addReward(10 + i, 99, 0);
+    }
+    for (int i = 0; i < 6; i++) {
+      house.addHousehold();
+    }
+    for (int i = 0; i < 100; i++) {
+      house.move(i % 16, 5);
+      house.buy(i % 16, 0, 1);
+    }
+    house.move(3, -1);
+    Check.due("balance", house.member(15, 2), 6);
+    Check.due("expiring", house.expiring(0, 365), 7);
+    Check.due("affords", house.affords(15), 9);
+    Check.due("affords", house.affords(3), -1);
+    Check.due("spend", house.spend(15), 0);
+    Check.due("when", house.when(3, 0, 0, 1, 1), -1);
+    Check.due("would", house.would(15, 0, 1), 1);
+    Check.due("takeBack", house.takeBack(99), 0);
+    Check.due("digest", Check.answerOf(house::digest) instanceof Long, true);
+    Check.due("state", house.state(3), 7 * 7 + 2 + 6);
+    Check.due("pass", house.pass(200), 0);
+    Check.due("pass", house.pass(165), 99);
+    Check.due("count", Check.counts(house), "[365, 1, 1, 6, 16, 10, 100, 100, 0, 0, 99, 0, " + house.count(12) + "]");
+    Check.due("breakage", house.breakage(), 0.99);
+    fullWithAGift();
+  }
+
+  private static void fullWithAGift() {
+    PointHouse house = Check.houseWith("rule a earn 2 each 196;", 2);
+    house.buy(1, 0, 1);
+    for (int i = 1; i < 99; i++) {
+      house.buy(0, 0, 1);
+    }
+    house.give(0, 1, 3);
+    Check.due("lots", house.count(7), 100);
+    Check.due("would", house.would(1, 0, 1), 2);
+    Check.due("would", house.would(0, 0, 1), 0);
+    Check.due("takes from other lots", house.takeBack(1), 0);
+    Check.due("from the first ones", house.lot(2, 1), 0);
+    Check.due("would", house.would(0, 0, 1), 2);
   }
 
   private static void pass() {

@@ -6,6 +6,8 @@ public final class RulesTest {
     teach();
     tokens();
     grammar();
+    beginnings();
+    trimmed();
     depth();
     size();
     names();
@@ -62,6 +64,15 @@ public final class RulesTest {
     Check.due("rules", house.count(1), 2);
     Check.due("teach", Check.teach(house, " \n "), 0);
     Check.due("rules", house.count(1), 0);
+    Check.due("teach of nothing once more", house.teach(), 0);
+    Check.due("rules", house.count(1), 0);
+    String all = "rule a earn 1" + "+1".repeat(147) + ";";
+    for (int i = 0; i < 6; i++) {
+      Check.due("teach many", Check.teach(house, all), 0);
+    }
+    house.addPartner(100, 1);
+    house.join(-1);
+    Check.due("many points", house.would(0, 0, 1), 148);
   }
 
   private static void error(String text, int error, int position) {
@@ -80,6 +91,10 @@ public final class RulesTest {
     good("\n rule  a1b2\nearn 1 ; \n");
     good("rule abcdefghij earn 123456;");
     error("rule abcdefghijk earn 1;", 1, 5);
+    good("rule z earn 1; rule z0a9 earn 1;");
+    error("rule ` earn 1;", 1, 5);
+    error("rule { earn 1;", 1, 5);
+    error("rule a earn :;", 1, 12);
     error("rule a earn 1234567;", 1, 12);
     error("rule a earn 12345678901234567890;", 1, 12);
     error("rule a earn 000000;", 0, -1);
@@ -105,6 +120,24 @@ public final class RulesTest {
 
   private static void grammar() {
     error("rule", 1, 4);
+    error("rule earn 1;", 1, 5);
+    error("rule a 1;", 1, 7);
+    error("rule a earn most 1;", 1, 12);
+    error("rule a earn 1 + ;", 1, 16);
+    error("rule a earn 1 * ;", 1, 16);
+    error("rule a earn - ;", 1, 14);
+    error("rule a earn min ;", 1, 16);
+    error("rule a earn min(1,;", 1, 18);
+    error("rule a earn 1 most ;", 1, 19);
+    error("rule a earn 1 most stop;", 1, 19);
+    error("rule a earn 1 each ;", 1, 19);
+    error("rule a when 1=1 or earn 1;", 1, 19);
+    error("rule a when 1=1 and earn 1;", 1, 20);
+    error("rule a when 1=1 and or 1=1 earn 1;", 1, 20);
+    error("rule a when not earn 1;", 1, 16);
+    error("rule a when [1=1 earn 1;", 1, 17);
+    error("rule a when [] earn 1;", 1, 13);
+    error("rule a when 1= earn 1;", 1, 15);
     error("rule a earn 1", 1, 13);
     error("rule a earn 1  \n", 1, 16);
     error("rule a earn ;", 1, 12);
@@ -138,9 +171,52 @@ public final class RulesTest {
     error("rule a earn 1; rule", 1, 19);
   }
 
+  /** No beginning of a rule is a text, and another rule does not follow it. */
+  private static void beginnings() {
+    String rule = "rule a when not [ 1 = - 1 or 1 < min ( 2 , 3 ) and 4 >= 4 ] earn ( 5 + 6 ) * 7 most 8 / 9 each 10 stop ;";
+    good(rule + rule.replace(" a ", " b "));
+    for (int i = rule.indexOf(' '); i >= 0; i = rule.indexOf(' ', i + 1)) {
+      error(rule.substring(0, i), 1, i);
+      error(rule.substring(0, i) + " rule b earn 1;", 1, i + 1);
+    }
+  }
+
+  /** What stood behind the end of the tape is not read. */
+  private static void trimmed() {
+    String[] texts = {"rule a earn 1;      ", "rule a earn 12345678", "rule abcdefghijklmno", "rule a earn 1;<=>==;"};
+    for (String text : texts) {
+      for (int n = 0; n <= 20; n++) {
+        PointHouse house = new PointHouse();
+        Check.feedText(house, text);
+        house.trim(n);
+        int[] want = Model.errorOf(text.substring(0, n));
+        Check.due("teach of the first " + n + " of " + text, house.teach(), want[0]);
+        Check.due("errorAt of the first " + n + " of " + text, house.errorAt(), want[1]);
+      }
+    }
+    for (String end : new String[] {" ", "a", "1", "<", ">", "=", "\n", ";"}) {
+      String text = "rule a earn 1;" + " ".repeat(1985) + end;
+      error(text, end.isBlank() ? 0 : 1, end.isBlank() ? -1 : 1999);
+    }
+    error("rule b earn 1" + " ".repeat(1986) + "<", 1, 1999);
+    error("rule b when 1" + " ".repeat(1986) + "<", 1, 2000);
+    error("rule" + " ".repeat(1986) + "abcdefghij", 1, 2000);
+    error("rule b earn 1 each" + " ".repeat(1976) + "123456", 1, 2000);
+    good("rule b earn 1 " + " ".repeat(1985) + ";");
+  }
+
   private static void depth() {
     good("rule a earn ((((((((1))))))));");
     error("rule a earn (((((((((1)))))))));", 1, 20);
+    good("rule a earn 1 most ((((((((1))))))));");
+    error("rule a earn 1 most (((((((((1)))))))));", 1, 27);
+    good("rule a earn max(1,(((((((1))))))));");
+    error("rule a earn max(1,((((((((1)))))))));", 1, 25);
+    good("rule a earn max((((((((1))))))),1);");
+    error("rule a earn max(((((((((1)))))))),1);", 1, 23);
+    good("rule a when ((((((((1)))))))) = ((((((((1)))))))) earn 1;");
+    error("rule a when 1 = (((((((((1))))))))) earn 1;", 1, 24);
+    good("rule a earn (1)+((((((((1))))))))*((((((((1))))))));");
     good("rule a earn --------1;");
     error("rule a earn ---------1;", 1, 20);
     good("rule a when [[[[[[[[1=1]]]]]]]] earn 1;");
@@ -191,7 +267,10 @@ public final class RulesTest {
     error(rules("abcdefghijjlm"), 2, 14 * 10 + 5);
     error(rules("aba"), 2, 33);
     error(rules("abaa"), 2, 33);
-    error("rule ab earn 1; rule a earn 1; rule abc earn 1;", 0, -1);
+    good("rule ab earn 1; rule a earn 1; rule abc earn 1; rule ba earn 1; rule ac earn 1; rule bb earn 1;");
+    error("rule abc earn 1; rule abd earn 1; rule xbc earn 1; rule abc earn 1;", 2, 56);
+    error("rule a earn 1; rule a\nearn 1;", 2, 20);
+    good("rule mule earn 1; rule bay earn 1; rule rul earn 1; rule rules earn 1; rule mim earn 1;");
     error(rules("aa") + "rule", 1, 32);
   }
 
@@ -265,6 +344,14 @@ public final class RulesTest {
       holds("2" + signs[i] + "1", held[i][2]);
     }
     holds("0-1 < 1", true);
+    for (String told : new String[] {"1<2", "2>1", "2=2", "1<=2", "2>=1"}) {
+      holds("not " + told, false);
+      holds("1=1 and " + told, true);
+      holds(told + " and 1=1", true);
+      holds("not not " + told, true);
+      holds("not [1=1 and " + told + "]", false);
+      holds("not [" + told + " or 1=2]", false);
+    }
     holds("65536*32768 < 0", true);
     holds("1=1 and 1=1", true);
     holds("1=1 and 1=2", false);
