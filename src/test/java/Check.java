@@ -8,14 +8,21 @@ final class Check {
   }
 
   private static int wrong = 0;
+  private static String sentence = "";
 
   private Check() {
+  }
+
+  /** The words of the document that the next answers are about; they are printed with a wrong one. */
+  static void sentence(String words) {
+    sentence = words;
   }
 
   static void due(String told, Object got, Object want) {
     if (!got.equals(want)) {
       wrong++;
-      System.out.println(told + " answered " + got + ", due is " + want);
+      String words = sentence.isEmpty() ? "" : "[" + sentence + "] ";
+      System.out.println(words + told + " answered " + got + ", due is " + want);
     }
   }
 
@@ -57,6 +64,14 @@ final class Check {
   static int teach(PointHouse house, String text) {
     feedText(house, text);
     return house.teach();
+  }
+
+  /** Teaches a new house this text, which has this error at this position: 0 and -1 if it has none. */
+  static void reads(String text, int error, int position) {
+    PointHouse house = new PointHouse();
+    due("teach of " + text, teach(house, text), error);
+    due("errorAt of " + text, house.errorAt(), position);
+    due("bytes of the tape behind " + text, house.count(11), 0);
   }
 
   /** A house with these rules, a partner of factor 100 and life 365, and members without a household. */

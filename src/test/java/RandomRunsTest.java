@@ -4,10 +4,14 @@ import java.util.Arrays;
 public final class RandomRunsTest {
   private static final int[] EXTREMES = {Integer.MIN_VALUE, Integer.MAX_VALUE, -2, -1, 0, 1, 6, 16, 100, 10001};
 
+  /** An object is used for at most so many calls. */
+  private static final int CALLS = 512;
+
   private final Texts chance;
   private final PointHouse house = new PointHouse();
   private final Model model = new Model();
   private final StringBuilder told = new StringBuilder();
+  private int made;
   private static final int[] answersSeen = new int[29];
 
   private RandomRunsTest(int seed) {
@@ -16,7 +20,7 @@ public final class RandomRunsTest {
 
   public static void main(String[] args) {
     for (int i = 0; i < 600; i++) {
-      new RandomRunsTest(i).run(i % 10 == 0 ? 512 : 200);
+      new RandomRunsTest(i).run(i % 10 == 0 ? CALLS : 260);
     }
     for (int i = 0; i < 29; i++) {
       Check.due("answers of call " + i + " are enough", answersSeen[i] > 100, true);
@@ -26,12 +30,13 @@ public final class RandomRunsTest {
 
   private void run(int calls) {
     settle();
-    for (int i = 0; i < calls; i++) {
+    for (int i = 0; made < calls - 1; i++) {
       step();
-      if (i % 16 == 0 || i == calls - 1) {
+      if (i % 16 == 0) {
         both(28, new int[0]);
       }
     }
+    both(28, new int[0]);
   }
 
   private void settle() {
@@ -137,6 +142,10 @@ public final class RandomRunsTest {
   }
 
   private void both(int call, int[] with) {
+    if (made == CALLS) {
+      return;
+    }
+    made++;
     String row = call + " " + Arrays.toString(with);
     told.append(row).append("; ");
     Object got = Check.answerOf(() -> ofHouse(call, with));

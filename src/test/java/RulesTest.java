@@ -76,10 +76,7 @@ public final class RulesTest {
   }
 
   private static void error(String text, int error, int position) {
-    PointHouse house = new PointHouse();
-    Check.due("teach of " + text, Check.teach(house, text), error);
-    Check.due("errorAt of " + text, house.errorAt(), position);
-    Check.due("bytes of the tape behind " + text, house.count(11), 0);
+    Check.reads(text, error, position);
   }
 
   private static void good(String text) {
