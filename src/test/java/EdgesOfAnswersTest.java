@@ -602,7 +602,32 @@ public final class EdgesOfAnswersTest {
       Check.due("when", house.when(0, 0, 1, 100, 1 + i), twin.when(0, 0, 1, 100, 1 + i));
     }
     Check.due("digest", house.digest(), twin.digest());
+    whenKeepsTheFirstAndTheLast();
     whenGivesNothing();
+  }
+
+  /** All lots expire in the days ahead, the first one and the last one too, and all tiers fall in them. */
+  private static void whenKeepsTheFirstAndTheLast() {
+    PointHouse house = plain(16);
+    house.addPartner(100, 9);
+    house.addReward(20000, 1, 3);
+    house.buy(0, 1, 5);
+    for (int i = 0; i < 16; i++) {
+      house.buy(i, 1, 500 + i);
+      house.takeBack(2 * i + 1);
+      house.buy(i, 1, 10 + i);
+    }
+    house.addReward(26, 9, 0);
+    long before = house.digest();
+    for (int member = 0; member < 16; member++) {
+      Check.due("when of the member " + member, house.when(member, 0, 1, 1, 60), -1);
+      Check.due("digest", house.digest(), before);
+    }
+    Check.due("the tier of the first", house.member(0, 1), 1);
+    Check.due("the tier of the last", house.member(15, 1), 1);
+    Check.due("the first has too few points", house.affords(0), -1);
+    Check.due("the last has just enough", house.affords(15), 1);
+    Check.due("all lots expire as they would have", house.pass(9), 5 + 286);
   }
 
   /** Purchases that would have been made do not count for each, neither now nor when others are made in their place. */

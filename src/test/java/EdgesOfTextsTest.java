@@ -131,6 +131,13 @@ public final class EdgesOfTextsTest {
     Check.feedText(house, "%");
     Check.due("trim(0)", house.trim(0), 0);
     Check.due("teach()", house.teach(), 0);
+    for (int n = 0; n < 24; n++) {
+      Check.feedText(house, "rule a when 1<=2 earn 1;");
+      house.trim(n);
+      Check.due("what was cut behind " + n + " is not read", house.teach(), n == 0 ? 0 : 1);
+      int first = n < 4 ? 0 : n > 6 && n < 11 ? 7 : n > 16 && n < 21 ? 17 : n;
+      Check.due("errorAt() behind " + n, house.errorAt(), n == 0 ? -1 : first);
+    }
     PointHouse full = fed(100);
     Check.noArgument("trim(2001)", () -> full.trim(2001));
     Check.due("trim(2000)", full.trim(2000), 2000);
