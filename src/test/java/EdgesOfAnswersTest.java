@@ -12,6 +12,7 @@ public final class EdgesOfAnswersTest {
     lotTold();
     passed();
     counted();
+    countedOfAllMembers();
     would();
     wouldWithAHundred();
     expiring();
@@ -212,6 +213,37 @@ public final class EdgesOfAnswersTest {
     house.feed(0, 0, 0, 0, 0);
     Check.due("counts", Check.counts(house), "[2, 1, 2, 0, 3, 0, 5, 5, 40, 25, 22, 20, 30]");
     Check.due("paper", Check.paper(house), "0 B +40\n0 G +9\n0 G +13\n40 0 0\n");
+  }
+
+  private static void countedOfAllMembers() {
+    Check.sentence("8 points left in all lots, 9 points owed by all, 10 points that expired in all");
+    PointHouse house = plain(16);
+    house.addPartner(100, 2);
+    int left = 0;
+    int owed = 0;
+    for (int i = 0; i < 16; i++) {
+      Check.due("left in all", house.count(8), left);
+      Check.due("owed by all", house.count(9), owed);
+      house.buy(i, 1, 100);
+      house.give(i, (i + 1) % 16, 10 + i);
+      house.takeBack(2 * i);
+      left = house.member((i + 1) % 16, 2);
+      owed += house.member(i, 3);
+      Check.due("owed by the member " + i, house.member(i, 3) > 0, true);
+      Check.due("left of the member " + i, house.member(i, 2), 0);
+    }
+    Check.due("left in all", house.count(8), left);
+    Check.due("owed by all", house.count(9), owed);
+    for (int i = 0; i < 16; i++) {
+      house.teach();
+      Check.teach(house, "rule a earn owed+" + (i + 1) + ";");
+      house.buy(i, 1, 1);
+    }
+    Check.due("owed by all", house.count(9), 0);
+    Check.due("left in all", house.count(8), 136 + left);
+    Check.due("they expire", house.pass(2), 136 + left);
+    Check.due("expired in all", house.count(10), 136 + left);
+    Check.due("left in all", house.count(8), 0);
   }
 
   private static void would() {

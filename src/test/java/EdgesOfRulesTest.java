@@ -22,6 +22,7 @@ public final class EdgesOfRulesTest {
     stopOfARule();
     amountAndPartner();
     tierAhead();
+    tierOfTheMember();
     days();
     balanceAhead();
     nth();
@@ -391,6 +392,22 @@ public final class EdgesOfRulesTest {
       other.buy(0, 0, amounts[tier]);
       Check.teach(other, "rule a earn 100*tier;");
       Check.due("tier " + tier, other.would(0, 0, 1), 100 * tier * (100 + 5 * tier) / 100);
+    }
+  }
+
+  private static void tierOfTheMember() {
+    PointHouse house = Check.houseWith("rule a earn amount;", 4);
+    int[] amounts = {499, 500, 2000, 5000};
+    for (int i = 0; i < 4; i++) {
+      house.addPartner(100, 5);
+      house.buy(i, 0, amounts[i]);
+    }
+    Check.teach(house, "rule a earn 1000*tier;");
+    for (int member = 0; member < 4; member++) {
+      for (int partner = 0; partner < 5; partner++) {
+        int points = 1000 * member * (100 + 5 * member) / 100;
+        Check.due("tier " + member + " at the partner " + partner, house.would(member, partner, 1), points);
+      }
     }
   }
 

@@ -9,6 +9,7 @@ public final class EdgesOfTakingBackTest {
     thenOtherLots();
     onlyItsMember();
     missingIsOwedBesides();
+    missingBehindAllLots();
     lessWhatExpired();
     whatPaidADebt();
     rewardGoesBackToItsLots();
@@ -185,6 +186,35 @@ public final class EdgesOfTakingBackTest {
     missing.give(0, 1, 11);
     Check.due("1 is missing", missing.takeBack(0), 1);
     Check.due("owed", missing.member(0, 3), 1);
+  }
+
+  /** The second purchase paid what was owed, so that it has no lot; of the one lot that there is so many points are left. */
+  private static void missingBehindAllLots() {
+    Check.sentence("and what is missing then is owed by this one, besides");
+    for (int left = 0; left <= 12; left++) {
+      PointHouse house = plain(1);
+      house.buy(0, 0, 12);
+      if (left > 0) {
+        house.addReward(left, 9, 0);
+        house.take(0, 0);
+      }
+      if (left < 12) {
+        house.addReward(12 - left, 9, 0);
+        house.take(0, left > 0 ? 1 : 0);
+      }
+      Check.due("all is missing", house.takeBack(0), 12);
+      int second = house.count(6);
+      house.buy(0, 0, 10);
+      Check.due("paid", house.member(0, 3), 2);
+      Check.due("no lot", house.transaction(second, 6), -1);
+      if (left > 0) {
+        Check.due("the reward back", house.takeBack(1), 2);
+      }
+      Check.due("balance", house.member(0, 2), left);
+      int missing = Math.max(0, 10 - left);
+      Check.due("missing with " + left + " left", house.takeBack(second), 2 + missing);
+      Check.due("balance", house.member(0, 2), Math.max(0, left - 10));
+    }
   }
 
   private static void lessWhatExpired() {

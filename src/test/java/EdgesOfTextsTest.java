@@ -19,6 +19,7 @@ public final class EdgesOfTextsTest {
     partsOfRules();
     depthOfEight();
     depthOfAllParts();
+    depthBehindAPart();
     depthGoesBack();
     endOfTheTape();
     tokensAtMost();
@@ -392,6 +393,34 @@ public final class EdgesOfTextsTest {
     error("rule a when [not [not [not [not [1=1]]]]] earn 1;", 32);
     error("rule a when [not [not [not [not not 1=1]]]] earn 1;", 32);
     error("rule a when [not [not [not [not 1=(1)]]]] earn 1;", 34);
+  }
+
+  /** What stands behind a part of the same depth is as deep as this one. */
+  private static void depthBehindAPart() {
+    Check.sentence("1 greater between a ( and its ), a [ and its ]");
+    String[] sums = {"1+", "1-", "1*", "1/", "1+1*", "1*1-"};
+    String[] opened = {"(1)", "-1", "min(1,2)", "max(1,2)"};
+    for (String begin : sums) {
+      for (int i = 0; i < opened.length; i++) {
+        int at = begin.length() + (i < 2 ? 0 : 3);
+        good("rule a earn " + within(OF_VALUES[0], 7, begin + opened[i]) + ";");
+        error("rule a earn " + within(OF_VALUES[0], 8, begin + opened[i]) + ";", 20 + at);
+        error("rule a earn " + within(OF_VALUES[2], 8, begin + opened[i]) + ";", 44 + at);
+        error("rule a earn " + within(OF_VALUES[3], 8, begin + opened[i]) + ";", 60 + at);
+        error("rule a earn 1 most " + within(OF_VALUES[0], 8, begin + opened[i]) + ";", 27 + at);
+        good("rule a when " + within(OF_TESTS[0], 7, "1=" + begin + opened[i]) + " earn 1;");
+        error("rule a when " + within(OF_TESTS[0], 8, "1=" + begin + opened[i]) + " earn 1;", 22 + at);
+        error("rule a when " + within(OF_TESTS[0], 8, begin + opened[i] + "=1") + " earn 1;", 20 + at);
+      }
+    }
+    String[] tests = {"1=1 or ", "1=1 and ", "1=1 or 1=1 and ", "1=1 and 1=1 or ", "1=1 or 1=1 or "};
+    for (String begin : tests) {
+      for (String deeper : new String[] {"[1=1]", "not 1=1", "(1)=1", "-1=1"}) {
+        good("rule a when " + within(OF_TESTS[0], 7, begin + deeper) + " earn 1;");
+        error("rule a when " + within(OF_TESTS[0], 8, begin + deeper) + " earn 1;", 20 + begin.length());
+        good("rule a when " + within(OF_TESTS[1], 8, begin + deeper) + " earn 1;");
+      }
+    }
   }
 
   private static void depthGoesBack() {
